@@ -37,6 +37,9 @@ public final class Grantbase {
     private static final int UPDATE_RIGHT = 2;
     private static final int DELETE_RIGHT = 3;
     private static final int EXECUTE_RIGHT = 4;
+    private static final int RIGHTS = 5;
+    // A right had for all columns, and for each.
+    private static final int ALL_HELD = 31;
 
     private static final int STATEMENT = 0;
     private static final int VIEW_QUERY = 1;
@@ -294,6 +297,7 @@ public final class Grantbase {
         s.type(c);
         s.type(d);
         s.type(e);
+        s.readAll(reader);
         return s.count;
     }
 
@@ -304,6 +308,7 @@ public final class Grantbase {
         }
         Sheet s = sheets[sheet];
         s.shorten(many);
+        s.readAll(reader);
         return s.count;
     }
 
@@ -312,7 +317,10 @@ public final class Grantbase {
         Sheet s = sheets[sheet];
         needPlace(place, s.count);
         needToken(token);
-        return s.change(place, token);
+        int old = at(s.token, place);
+        set(s.token, place, token);
+        s.readAll(reader);
+        return old;
     }
 
     public int sample(int sheet, int sample, int x, int y) {
@@ -331,6 +339,7 @@ public final class Grantbase {
                 s.type(token == X ? N0 + x : token == Y ? N0 + y : token);
             }
         }
+        s.readAll(reader);
         return s.count;
     }
 
@@ -407,14 +416,15 @@ public final class Grantbase {
         if (base.isThere(FIRST_VIEW + view)) {
             return refuse();
         }
-        Text read = sheets[sheet].readAs(VIEW_QUERY, reader);
+        Text read = sheets[sheet].readingAs(VIEW_QUERY);
         int fault = Law.check(base, read, view, NONE, actor);
         if (fault != 0) {
             return -10 - numberOfFault(fault);
         }
         base.establish(FIRST_VIEW + view, actor, sheets[sheet].keep(VIEW_QUERY, reader), isOwners);
         settle(session);
-        return Law.widthOfView(base, view, actor);
+        // The owner sees all of its columns.
+        return Integer.bitCount(base.columnsSeen(actor, FIRST_VIEW + view));
     }
 
     public int function(int session, int function, int sheet, boolean isOwners) {
@@ -426,7 +436,7 @@ public final class Grantbase {
         if (base.isThere(FIRST_FUNCTION + function)) {
             return refuse();
         }
-        Text read = sheets[sheet].readAs(FUNCTION_EXPR, reader);
+        Text read = sheets[sheet].readingAs(FUNCTION_EXPR);
         int fault = Law.check(base, read, function, NONE, actor);
         if (fault != 0) {
             return -10 - numberOfFault(fault);
@@ -487,13 +497,13 @@ public final class Grantbase {
         if (!base.owns(by, table)) {
             return refuse();
         }
-        Text read = sheets[sheet].readAs(POLICY_COND, reader);
+        Text read = sheets[sheet].readingAs(POLICY_COND);
         int fault = Law.check(base, read, VIEWS, table, by);
         if (fault != 0) {
             return -10 - numberOfFault(fault);
         }
         int slot = table * POLICIES + policy;
-        base.enact(slot, kind, actor, sheets[sheet].keep(POLICY_COND, reader));
+        base.enact(slot, kind * ACTORS + actor, sheets[sheet].keep(POLICY_COND, reader));
         settle(session);
         return base.policiesOf(table);
     }
@@ -504,10 +514,10 @@ public final class Grantbase {
         needPlace(policy, POLICIES);
         Base base = ahead(session);
         int slot = table * POLICIES + policy;
-        if (!base.owns(sessions[session].actor, table) || at(base.kind, slot) == NONE) {
+        if (!base.owns(sessions[session].actor, table) || at(base.policy, slot) == NONE) {
             return refuse();
         }
-        base.enact(slot, NONE, 0, null);
+        base.enact(slot, NONE, null);
         settle(session);
         return base.policiesOf(table);
     }
@@ -523,7 +533,7 @@ public final class Grantbase {
         Base base = ahead(session);
         int by = sessions[session].actor;
         boolean isHad = base.isThere(object) && Base.isFit(object, right, column)
-                && base.mayUse(by, object, right, column, true);
+                && base.mayGive(by, object, right, column);
         if (!isHad || actor == by) {
             return refuse();
         }
@@ -573,7 +583,7 @@ public final class Grantbase {
         needPlace(sheet, SHEETS);
         Session s = sessions[session];
         Base base = baseOf(session);
-        Text text = sheets[sheet].readAs(STATEMENT, reader);
+        Text text = sheets[sheet].readingAs(STATEMENT);
         int error = numberOfFault(Law.check(base, text, VIEWS, NONE, s.actor));
         s.forget();
         int many = 0;
@@ -583,7 +593,7 @@ public final class Grantbase {
             return s.told.count;
         }
         if (error == 0) {
-            ahead(session);
+            before.copyFrom(base);
             many = teller.change(base, text, s.actor);
             error = many < 0 ? -many : 0;
         }
@@ -592,7 +602,7 @@ public final class Grantbase {
             s.error = error;
             return -10 - error;
         }
-        settle(session);
+        conclude(base);
         s.kind = 2;
         s.changed = many;
         return many;
@@ -696,8 +706,11 @@ public final class Grantbase {
         needNumber(right, 0, EXECUTE_RIGHT);
         needNumber(column, NONE, COLUMNS - 1);
         Base base = baseOf(session);
-        return base.isThere(object) && Base.isFit(object, right, column)
-                && base.mayUse(actor, object, right, column, isOption);
+        if (!base.isThere(object) || !Base.isFit(object, right, column)) {
+            return false;
+        }
+        return isOption ? base.mayGive(actor, object, right, column)
+                : base.mayUse(actor, object, right, column);
     }
 
     public boolean isKnown(int session, int actor, int object) {
@@ -711,7 +724,7 @@ public final class Grantbase {
         needPlace(session, SESSIONS);
         needPlace(object, FIRST_FUNCTION);
         needNumber(actor, 0, ACTORS - 1);
-        return Law.columnsSeen(baseOf(session), object, VIEWS, actor);
+        return baseOf(session).columnsSeen(actor, object);
     }
 
     public String rows(int session, int actor, int table, boolean isWrite) {
@@ -869,11 +882,18 @@ public final class Grantbase {
         Base base = baseOf(session);
         base.closeCircles();
         int gone = base.prune();
+        base.noteRights();
+        Law.noteUses(base);
+        conclude(base);
+        return gone;
+    }
+
+    /** Ends a call that may have changed rows, or also more that is noted already. */
+    private void conclude(Base base) {
         base.forget();
         if (base == shared && !shared.isLike(before)) {
             version++;
         }
-        return gone;
     }
 
     // ---- faults: the place, and the number below it; 0 without one
@@ -887,7 +907,7 @@ public final class Grantbase {
     }
 
     private int faultOf(int session, int sheet, int form, int actor) {
-        Text text = sheets[sheet].readAs(form, reader);
+        Text text = sheets[sheet].readingAs(form);
         int number = form == VIEW_QUERY || form == FUNCTION_EXPR ? 3 : VIEWS;
         return Law.check(baseOf(session), text, number, 0, actor);
     }
@@ -895,7 +915,7 @@ public final class Grantbase {
     /** Puts what a query tells an actor into rows (none with a fault), and answers the fault. */
     private int ask(Base base, int sheet, int actor, Rows rows) {
         rows.start(0);
-        Text text = sheets[sheet].readAs(STATEMENT, reader);
+        Text text = sheets[sheet].readingAs(STATEMENT);
         int fault = Law.check(base, text, VIEWS, NONE, actor);
         if (fault == 0 && text.isQuery()) {
             teller.tell(base, text, actor, rows);
@@ -1121,7 +1141,8 @@ public final class Grantbase {
         page.setLength(0);
         Text condition = base.conditionOf(slot);
         if (condition != null) {
-            page.append(at(base.kind, slot)).append(',').append(at(base.whom, slot)).append(':');
+            int policy = at(base.policy, slot);
+            page.append(policy / ACTORS).append(',').append(policy % ACTORS).append(':');
             writeTokens(condition.token, condition.count);
         }
     }
@@ -1204,7 +1225,7 @@ public final class Grantbase {
                 d = d * 31 + (base.knows(actor, object) ? 1 : 0);
             }
             for (int object = 0; object < FIRST_FUNCTION; object++) {
-                d = d * 31 + Law.columnsSeen(base, object, VIEWS, actor);
+                d = d * 31 + base.columnsSeen(actor, object);
             }
             for (int table = 0; table < TABLES; table++) {
                 writeNumbers(base, table, actor, false);
@@ -1236,35 +1257,29 @@ public final class Grantbase {
 
     // ---- whether the whole is sound
 
-    /** Whether no actor is told by a query what it does not see. */
+    /** Whether no actor is told by a query of tables what it does not see. */
     private boolean isBlind(Base base) {
         for (int actor = 0; actor < ACTORS; actor++) {
             shadow.copyFrom(base);
             for (int table = 0; table < TABLES; table++) {
-                int seen = teller.rowsFor(base, table, actor, false);
-                shadow.hide(table, seen, base.columnsOfTable(table, actor));
+                int rows = teller.rowsFor(base, table, actor, false);
+                shadow.hide(table, rows, base.columnsSeen(actor, table));
             }
-            shadow.forget();
             for (int sheet = 0; sheet < sheets.length; sheet++) {
-                if (!isToldAlike(base, sheet, actor)) {
+                Text text = sheets[sheet].readingAs(STATEMENT);
+                boolean isAsked = text.isQuery() && text.isOfTables()
+                        && Law.check(base, text, VIEWS, NONE, actor) == 0;
+                if (!isAsked) {
+                    continue;
+                }
+                teller.tell(base, text, actor, found);
+                teller.tell(shadow, text, actor, second);
+                if (!found.isLike(second)) {
                     return false;
                 }
             }
         }
         return true;
-    }
-
-    private boolean isToldAlike(Base base, int sheet, int actor) {
-        Text text = sheets[sheet].readAs(STATEMENT, reader);
-        if (!text.isQuery() || !text.isOfTables()) {
-            return true;
-        }
-        if (Law.check(base, text, VIEWS, NONE, actor) != 0) {
-            return true;
-        }
-        teller.tell(base, text, actor, found);
-        teller.tell(shadow, text, actor, second);
-        return found.isLike(second);
     }
 
     /** What a session holds. */
@@ -1301,12 +1316,10 @@ public final class Grantbase {
         private final int[] token = new int[TYPED];
         private int count;
         private final Text[] reading = new Text[FORMS];
-        // The forms whose reading is of what is typed now.
-        private int fresh;
 
         private Sheet() {
             for (int i = 0; i < reading.length; i++) {
-                reading[i] = new Text(TYPED);
+                reading[i] = new Text(TYPED, i);
             }
         }
 
@@ -1314,36 +1327,27 @@ public final class Grantbase {
             if (word != NONE && count < token.length) {
                 token[count] = word;
                 count++;
-                fresh = 0;
             }
         }
 
         private void shorten(int many) {
             count = many >= count ? 0 : count - many;
-            fresh = 0;
         }
 
-        private int change(int place, int word) {
-            int old = at(token, place);
-            set(token, place, word);
-            fresh = 0;
-            return old;
-        }
-
-        private Text readAs(int form, Reader reader) {
-            Text text = reading[form >= 0 && form < reading.length ? form : 0];
-            if ((fresh >> form & 1) == 0) {
-                text.takeTokens(token, count);
-                reader.read(text, form);
-                fresh |= 1 << form;
+        private void readAll(Reader reader) {
+            for (int form = 0; form < reading.length; form++) {
+                reader.read(reading[form], token, count);
             }
-            return text;
         }
 
+        private Text readingAs(int form) {
+            return reading[form >= 0 && form < reading.length ? form : 0];
+        }
+
+        /** A text of its own of what is typed. */
         private Text keep(int form, Reader reader) {
-            Text text = new Text(count);
-            text.takeTokens(token, count);
-            reader.read(text, form);
+            Text text = new Text(count, form);
+            reader.read(text, token, count);
             return text;
         }
     }
@@ -1374,17 +1378,17 @@ public final class Grantbase {
         }
 
         private int cellAt(int row, int column) {
-            return column >= 0 && column < WIDE ? at(cell, row * WIDE + column) : NONE;
+            boolean isThere = row >= 0 && row < ROWS && column >= 0 && column < WIDE;
+            return isThere ? cell[row * WIDE + column] : NONE;
         }
 
         private int compareRows(int row, int otherRow) {
-            for (int column = 0; column < width; column++) {
-                int difference = cellAt(row, column) - cellAt(otherRow, column);
-                if (difference != 0) {
-                    return difference;
-                }
+            int difference = 0;
+            boolean areThere = row >= 0 && row < ROWS && otherRow >= 0 && otherRow < ROWS;
+            for (int i = 0; areThere && i < width && i < WIDE && difference == 0; i++) {
+                difference = cell[row * WIDE + i] - cell[otherRow * WIDE + i];
             }
-            return 0;
+            return difference;
         }
 
         /** Puts the rows in order; NULL is below all numbers as it is. */
@@ -1451,50 +1455,55 @@ public final class Grantbase {
         private final int[] number = new int[TABLES * TABLE_ROWS];
         private final int[] cell = new int[TABLES * TABLE_ROWS * COLUMNS];
         private final Text[] text = new Text[OBJECTS];
-        private final int[] kind = new int[TABLES * POLICIES];
-        private final int[] whom = new int[TABLES * POLICIES];
+        // 8 times the KIND of a policy and its actor, or NONE.
+        private final int[] policy = new int[TABLES * POLICIES];
         private final Text[] condition = new Text[TABLES * POLICIES];
         // Rising numbers that tell all of a grant, so that equal databases hold equal rows of them.
         private final int[] grant = new int[GRANTS];
         private int grants;
-        // Remembered until something changes: NONE where it is not known yet.
-        private final int[] viewWidth = new int[VIEWS * ACTORS];
-        private final int[] failing = new int[FUNCTIONS * ACTORS];
-        private final int[] readable = new int[TABLES * ACTORS];
-        private int readAsker;
+        // Noted behind each change. Of actor, object and right: bit 0 if had for all columns, bit
+        // c + 1 if for column c.
+        private final int[] held = new int[ACTORS * OBJECTS * RIGHTS];
+        // Of an actor the set of objects that it knows.
+        private final int[] known = new int[ACTORS];
+        // Of an actor and a table or view the set of columns that it sees.
+        private final int[] seen = new int[ACTORS * FIRST_FUNCTION];
+        // Of an actor the set of views and functions with an error if it uses them.
+        private final int[] broken = new int[ACTORS];
+        // Of table, runner and asker the set of places of rows; NONE until it is asked for.
+        private final int[] readable = new int[TABLES * ACTORS * ACTORS];
 
         private Base() {
             for (int i = 0; i < ACTORS; i++) {
                 circle[i] = 1 << i;
             }
             Arrays.fill(owner, NONE);
-            Arrays.fill(kind, NONE);
-            Arrays.fill(viewWidth, NONE);
-            Arrays.fill(failing, NONE);
+            Arrays.fill(policy, NONE);
             Arrays.fill(readable, NONE);
         }
 
         private void forget() {
-            Arrays.fill(viewWidth, NONE);
-            Arrays.fill(failing, NONE);
             Arrays.fill(readable, NONE);
         }
 
         private void copyFrom(Base base) {
-            System.arraycopy(base.member, 0, member, 0, member.length);
-            System.arraycopy(base.circle, 0, circle, 0, circle.length);
-            System.arraycopy(base.owner, 0, owner, 0, owner.length);
-            System.arraycopy(base.way, 0, way, 0, way.length);
-            System.arraycopy(base.columns, 0, columns, 0, columns.length);
-            System.arraycopy(base.next, 0, next, 0, next.length);
-            System.arraycopy(base.security, 0, security, 0, security.length);
-            System.arraycopy(base.count, 0, count, 0, count.length);
-            System.arraycopy(base.number, 0, number, 0, number.length);
-            System.arraycopy(base.cell, 0, cell, 0, cell.length);
-            System.arraycopy(base.kind, 0, kind, 0, kind.length);
-            System.arraycopy(base.whom, 0, whom, 0, whom.length);
-            System.arraycopy(base.grant, 0, grant, 0, grant.length);
+            copy(base.member, member);
+            copy(base.circle, circle);
+            copy(base.owner, owner);
+            copy(base.way, way);
+            copy(base.columns, columns);
+            copy(base.next, next);
+            copy(base.security, security);
+            copy(base.count, count);
+            copy(base.number, number);
+            copy(base.cell, cell);
+            copy(base.policy, policy);
+            copy(base.grant, grant);
             grants = base.grants;
+            copy(base.held, held);
+            copy(base.known, known);
+            copy(base.seen, seen);
+            copy(base.broken, broken);
             for (int i = 0; i < text.length; i++) {
                 text[i] = base.textOf(i);
             }
@@ -1504,14 +1513,17 @@ public final class Grantbase {
             forget();
         }
 
+        private static void copy(int[] from, int[] to) {
+            System.arraycopy(from, 0, to, 0, Math.min(from.length, to.length));
+        }
+
         private boolean isLike(Base base) {
             boolean isEqual = areEqual(member, base.member) && areEqual(owner, base.owner)
                     && areEqual(way, base.way) && areEqual(columns, base.columns)
                     && areEqual(next, base.next) && areEqual(security, base.security)
                     && areEqual(count, base.count) && areEqual(number, base.number)
-                    && areEqual(cell, base.cell) && areEqual(kind, base.kind)
-                    && areEqual(whom, base.whom) && areEqual(grant, base.grant)
-                    && grants == base.grants;
+                    && areEqual(cell, base.cell) && areEqual(policy, base.policy)
+                    && areEqual(grant, base.grant) && grants == base.grants;
             for (int i = 0; i < text.length && isEqual; i++) {
                 isEqual = areSameTyped(text[i], base.textOf(i));
             }
@@ -1616,7 +1628,7 @@ public final class Grantbase {
 
         private boolean isExempt(int actor, int table) {
             int degree = at(security, table);
-            return degree == 0 || degree == 1 && owns(actor, table);
+            return degree == 0 || degree == 1 && (at(circle, actor) >> at(owner, table) & 1) != 0;
         }
 
         private int objects() {
@@ -1647,7 +1659,7 @@ public final class Grantbase {
             establish(object, NONE, null, false);
             if (object < TABLES) {
                 for (int i = 0; i < POLICIES; i++) {
-                    enact(object * POLICIES + i, NONE, 0, null);
+                    enact(object * POLICIES + i, NONE, null);
                 }
                 for (int row = TABLE_ROWS - 1; row >= 0; row--) {
                     removeRow(object, row);
@@ -1659,9 +1671,8 @@ public final class Grantbase {
             return gone;
         }
 
-        private void enact(int slot, int policyKind, int actor, Text typed) {
-            set(kind, slot, policyKind);
-            set(whom, slot, actor);
+        private void enact(int slot, int kindAndActor, Text typed) {
+            set(policy, slot, kindAndActor);
             if (slot >= 0 && slot < condition.length) {
                 condition[slot] = typed;
             }
@@ -1670,7 +1681,7 @@ public final class Grantbase {
         private int setOfPolicies(int table) {
             int all = 0;
             for (int i = 0; i < POLICIES; i++) {
-                all |= at(kind, table * POLICIES + i) >= 0 ? 1 << i : 0;
+                all |= at(policy, table * POLICIES + i) >= 0 ? 1 << i : 0;
             }
             return all;
         }
@@ -1763,47 +1774,82 @@ public final class Grantbase {
             return right == SELECT_RIGHT ? !isFunction : isTable;
         }
 
-        /** Bit 0 if a right is had for all columns, and bit c + 1 if for column c. */
-        private int held(int actor, int object, int right, boolean isOption) {
-            if (owns(actor, object)) {
-                return 31;
-            }
-            int had = 0;
-            for (int i = 0; i < grants && i < grant.length; i++) {
-                int g = grant[i];
-                if (objectOf(g) == object && rightOf(g) == right && (!isOption || isOption(g))
-                        && isIn(getterOf(g), actor)) {
-                    had |= 1 << columnOf(g) + 1;
+        /** Notes who has which rights, knows which objects and sees what of tables. */
+        private void noteRights() {
+            Arrays.fill(held, 0);
+            Arrays.fill(known, 0);
+            Arrays.fill(seen, 0);
+            Arrays.fill(broken, 0);
+            for (int actor = 0; actor < ACTORS; actor++) {
+                for (int object = 0; object < OBJECTS; object++) {
+                    if (owns(actor, object)) {
+                        noteOwner(actor, object);
+                    }
+                }
+                for (int i = 0; i < grants && i < grant.length; i++) {
+                    if (isIn(getterOf(grant[i]), actor)) {
+                        noteGrant(actor, grant[i]);
+                    }
+                }
+                for (int table = 0; table < TABLES; table++) {
+                    int all = isThere(table) ? (1 << at(columns, table)) - 1 : 0;
+                    noteSeen(actor, table, all);
                 }
             }
-            return had;
         }
 
-        private boolean mayUse(int actor, int object, int right, int column, boolean isOption) {
-            int had = held(actor, object, right, isOption);
+        private void noteOwner(int actor, int object) {
+            set(known, actor, at(known, actor) | 1 << object);
+            for (int right = 0; right < RIGHTS; right++) {
+                set(held, (actor * OBJECTS + object) * RIGHTS + right, ALL_HELD);
+            }
+        }
+
+        private void noteGrant(int actor, int g) {
+            int object = objectOf(g);
+            int slot = (actor * OBJECTS + object) * RIGHTS + rightOf(g);
+            set(known, actor, at(known, actor) | 1 << object);
+            set(held, slot, at(held, slot) | 1 << columnOf(g) + 1);
+        }
+
+        private void noteSeen(int actor, int object, int all) {
+            set(seen, actor * FIRST_FUNCTION + object,
+                    all & columnsFor(actor, object, SELECT_RIGHT));
+        }
+
+        private boolean mayUse(int actor, int object, int right, int column) {
+            int had = at(held, (actor * OBJECTS + object) * RIGHTS + right);
             return (had & 1) != 0 || (had >> column + 1 & 1) != 0;
         }
 
         /** The columns that a right is had for, as a set. */
         private int columnsFor(int actor, int object, int right) {
-            int had = held(actor, object, right, false);
-            return (had & 1) != 0 ? (1 << COLUMNS) - 1 : had >> 1;
+            int had = at(held, (actor * OBJECTS + object) * RIGHTS + right);
+            return ((had & 1) != 0 ? ALL_HELD : had) >> 1;
         }
 
-        private int columnsOfTable(int table, int actor) {
-            int all = (1 << at(columns, table)) - 1;
-            return isThere(table) ? all & columnsFor(actor, table, SELECT_RIGHT) : 0;
+        /** Whether a right is had with OPTION. */
+        private boolean mayGive(int actor, int object, int right, int column) {
+            boolean isHad = owns(actor, object);
+            for (int i = 0; i < grants && i < grant.length && !isHad; i++) {
+                int g = grant[i];
+                isHad = objectOf(g) == object && rightOf(g) == right && isOption(g)
+                        && (columnOf(g) == NONE || columnOf(g) == column)
+                        && isIn(getterOf(g), actor);
+            }
+            return isHad;
+        }
+
+        private int columnsSeen(int actor, int object) {
+            return object < FIRST_FUNCTION ? at(seen, actor * FIRST_FUNCTION + object) : 0;
         }
 
         private boolean knows(int actor, int object) {
-            if (!isThere(object)) {
-                return false;
-            }
-            boolean isKnown = owns(actor, object);
-            for (int i = 0; i < grants && i < grant.length && !isKnown; i++) {
-                isKnown = objectOf(grant[i]) == object && isIn(getterOf(grant[i]), actor);
-            }
-            return isKnown;
+            return (at(known, actor) >> object & 1) != 0;
+        }
+
+        private boolean isBroken(int actor, int object) {
+            return (at(broken, actor) >> object & 1) != 0;
         }
 
         // ---- grants
@@ -2002,8 +2048,8 @@ public final class Grantbase {
      */
     private static final class Text {
         private final int[] token;
+        private final int form;
         private int count;
-        private int form;
         private final int[] kind;
         private final int[] left;
         private final int[] right;
@@ -2023,8 +2069,9 @@ public final class Grantbase {
         // The place of the first token that can not stand there.
         private int bad;
 
-        private Text(int room) {
+        private Text(int room, int form) {
             int size = room < 0 ? 0 : room;
+            this.form = form;
             token = new int[size];
             kind = new int[size];
             left = new int[size];
@@ -2040,15 +2087,9 @@ public final class Grantbase {
             }
         }
 
-        private void takeTokens(int[] typed, int many) {
-            count = many < 0 ? 0 : many > token.length ? token.length : many;
-            for (int i = 0; i < count; i++) {
-                token[i] = at(typed, i);
-            }
-        }
-
-        private void start(int asForm) {
-            form = asForm;
+        private void start(int[] typed, int many) {
+            count = many < 0 ? 0 : Math.min(many, Math.min(token.length, typed.length));
+            System.arraycopy(typed, 0, token, 0, count);
             Arrays.fill(kind, 0);
             Arrays.fill(left, NONE);
             Arrays.fill(right, NONE);
@@ -2064,12 +2105,6 @@ public final class Grantbase {
             bad = NONE;
         }
 
-        private void mark(int place, int asKind, int toLeft, int toRight) {
-            set(kind, place, asKind);
-            set(left, place, toLeft);
-            set(right, place, toRight);
-        }
-
         private Query queryOf(int number) {
             return number >= 0 && number < queries && number < query.length ? query[number] : null;
         }
@@ -2080,7 +2115,8 @@ public final class Grantbase {
         }
 
         private Query queryAround(int place) {
-            return queryOf(at(around, place));
+            int number = at(around, place);
+            return number >= 0 && number < queries && number < query.length ? query[number] : null;
         }
 
         private boolean isQuery() {
@@ -2104,71 +2140,74 @@ public final class Grantbase {
 
     /** Reads tokens as one of the forms. */
     private static final class Reader {
-        private Text text = new Text(0);
+        private Text text = new Text(0, STATEMENT);
         private int at;
+        // The token there; none at the end, or behind a fault, so that nothing goes on.
+        private int token;
         private int bad;
         private int around;
         private int zone;
 
-        private void read(Text into, int form) {
+        private void read(Text into, int[] typed, int count) {
             text = into;
-            text.start(form);
-            at = 0;
+            text.start(typed, count);
+            at = NONE;
             bad = NONE;
             around = NONE;
             zone = ELSEWHERE;
-            text.root = whole(form);
+            advance();
+            switch (text.form) {
+                case STATEMENT:
+                    text.root = token == SELECT ? query(false, 0) : change();
+                    break;
+                case VIEW_QUERY:
+                    text.root = query(false, 0);
+                    break;
+                case FUNCTION_EXPR:
+                    text.root = expr(0);
+                    break;
+                default:
+                    text.root = cond(0);
+                    break;
+            }
             if (at < text.count) {
                 fail();
             }
             text.bad = bad;
         }
 
-        private int whole(int form) {
-            switch (form) {
-                case STATEMENT:
-                    return statement();
-                case VIEW_QUERY:
-                    return query(false, 0);
-                case FUNCTION_EXPR:
-                    return expr(0);
-                default:
-                    return cond(0);
-            }
-        }
-
-        /** The token at hand; none behind a fault, so that nothing goes on there. */
-        private int peek() {
-            return bad == NONE && at < text.count ? at(text.token, at) : NONE;
-        }
-
-        private boolean isAt(int token) {
-            return peek() == token;
-        }
-
-        private boolean isAmong(int first, int many) {
-            int token = peek();
-            return token >= first && token < first + many;
+        /** Goes on to the next token. */
+        private void advance() {
+            at++;
+            boolean isThere = bad == NONE && at >= 0 && at < text.count && at < text.token.length;
+            token = isThere ? text.token[at] : NONE;
         }
 
         private int fail() {
             if (bad == NONE) {
                 bad = at;
+                token = NONE;
             }
             return NONE;
         }
 
-        private boolean skip(int token) {
-            boolean isThere = isAt(token);
+        private boolean isAmong(int first, int many) {
+            return token >= first && token < first + many;
+        }
+
+        private boolean skip(int wanted) {
+            boolean isThere = token == wanted;
             if (isThere) {
-                at++;
+                advance();
             }
             return isThere;
         }
 
-        private boolean need(int token) {
-            boolean isThere = skip(token);
-            if (!isThere) {
+        private boolean need(int wanted) {
+            boolean isThere = token == wanted;
+            if (isThere) {
+                advance();
+            } else {
                 fail();
             }
             return isThere;
@@ -2176,78 +2215,74 @@ public final class Grantbase {
 
         /** A token of some that are wanted: its place. */
         private int needAmong(int first, int many) {
-            if (!isAmong(first, many)) {
+            if (token < first || token >= first + many) {
                 return fail();
             }
-            at++;
-            return at - 1;
+            int place = at;
+            advance();
+            return place;
         }
 
         /** A token that may not stand four deep already. */
-        private boolean needNest(int token, int depth) {
-            if (depth >= NESTED) {
+        private boolean needNest(int wanted, int depth) {
+            boolean isThere = token == wanted && depth < NESTED;
+            if (isThere) {
+                advance();
+            } else {
                 fail();
-                return false;
             }
-            return need(token);
+            return isThere;
         }
 
+        /** Puts a node at a place. */
         private int lay(int place, int kind, int left, int right) {
-            text.mark(place, kind, left, right);
-            set(text.around, place, around);
-            set(text.zone, place, zone);
+            if (place >= 0 && place < text.kind.length) {
+                text.kind[place] = kind;
+                text.left[place] = left;
+                text.right[place] = right;
+                text.around[place] = around;
+                text.zone[place] = zone;
+            }
             return place;
         }
 
         // ---- statements
 
-        private int statement() {
-            switch (peek()) {
-                case SELECT:
-                    return query(false, 0);
-                case INSERT:
-                    return change(INSERT_KIND);
-                case UPDATE:
-                    return change(UPDATE_KIND);
-                case DELETE:
-                    return change(DELETE_KIND);
-                default:
-                    return fail();
-            }
-        }
-
-        private int change(int kind) {
+        private int change() {
             int place = at;
-            at++;
+            int word = token;
+            if (!isAmong(INSERT, 3)) {
+                return fail();
+            }
+            advance();
             text.target = lay(needAmong(T0, TABLES), TARGET_KIND, NONE, NONE);
-            lay(place, kind, NONE, NONE);
-            if (kind == UPDATE_KIND) {
+            lay(place, word == INSERT ? INSERT_KIND : word == UPDATE ? UPDATE_KIND : DELETE_KIND,
+                    NONE, NONE);
+            if (word == UPDATE) {
                 need(SET);
             }
-            if (kind != DELETE_KIND) {
+            if (word != DELETE) {
                 set(text.left, place, sets());
             }
-            if (kind != INSERT_KIND && skip(WHERE)) {
+            if (word != INSERT && skip(WHERE)) {
                 text.where = cond(0);
             }
             return place;
         }
 
+        /** C = expr, and as many more behind commas as columns can be: the first one. */
         private int sets() {
-            int first = oneSet();
-            int last = first;
-            for (int i = 1; i < COLUMNS && skip(COMMA); i++) {
-                int another = oneSet();
-                set(text.link, last, another);
-                last = another;
+            int first = NONE;
+            int last = NONE;
+            for (int i = 0; i < COLUMNS && (i == 0 || skip(COMMA)); i++) {
+                int place = needAmong(C0, COLUMNS);
+                need(EQUAL);
+                lay(place, SET_KIND, at(text.token, place) - C0, expr(0));
+                set(text.link, last, place);
+                first = i == 0 ? place : first;
+                last = place;
             }
             return first;
-        }
-
-        private int oneSet() {
-            int place = needAmong(C0, COLUMNS);
-            need(EQUAL);
-            return lay(place, SET_KIND, at(text.token, place) - C0, expr(0));
         }
 
         // ---- queries
@@ -2255,10 +2290,10 @@ public final class Grantbase {
         private int query(boolean isFactor, int depth) {
             int place = at;
             int number = text.queries;
-            if (!isAt(SELECT) || number >= text.query.length) {
+            if (token != SELECT || number >= text.query.length) {
                 return fail();
             }
-            at++;
+            advance();
             text.queries++;
             lay(place, QUERY_KIND, number, NONE);
             Query query = text.query[number];
@@ -2270,7 +2305,11 @@ public final class Grantbase {
             query.isDistinct = skip(DISTINCT);
             what(query, depth);
             zone = ELSEWHERE;
-            sources(query);
+            need(FROM);
+            query.a = lay(needAmong(T0, TABLES + VIEWS), SOURCE_KIND, NONE, NONE);
+            if (skip(COMMA)) {
+                query.b = lay(needAmong(T0, TABLES + VIEWS), SOURCE_KIND, NONE, NONE);
+            }
             if (skip(WHERE)) {
                 query.where = cond(depth);
             }
@@ -2285,10 +2324,10 @@ public final class Grantbase {
         }
 
         private void what(Query query, int depth) {
-            if (isAt(STAR)) {
+            if (token == STAR) {
                 query.isStar = true;
                 query.what = lay(at, STAR_KIND, NONE, NONE);
-                at++;
+                advance();
                 return;
             }
             query.what = expr(depth);
@@ -2302,18 +2341,6 @@ public final class Grantbase {
             }
         }
 
-        private void sources(Query query) {
-            need(FROM);
-            query.a = source();
-            if (skip(COMMA)) {
-                query.b = source();
-            }
-        }
-
-        private int source() {
-            return lay(needAmong(T0, TABLES + VIEWS), SOURCE_KIND, NONE, NONE);
-        }
-
         // ---- values
 
         private int expr(int depth) {
@@ -2322,7 +2349,7 @@ public final class Grantbase {
             int last = NONE;
             for (int i = 0; i < TYPED && isAmong(PLUS, 2); i++) {
                 int place = at;
-                at++;
+                advance();
                 int operand = term(depth);
                 head = chain(head, last, place, CHAIN_KIND, first, operand);
                 last = place;
@@ -2334,9 +2361,9 @@ public final class Grantbase {
             int first = factor(depth);
             int head = NONE;
             int last = NONE;
-            for (int i = 0; i < TYPED && isAt(STAR); i++) {
+            for (int i = 0; i < TYPED && token == STAR; i++) {
                 int place = at;
-                at++;
+                advance();
                 int operand = factor(depth);
                 head = chain(head, last, place, CHAIN_KIND, first, operand);
                 last = place;
@@ -2353,7 +2380,6 @@ public final class Grantbase {
 
         private int factor(int depth) {
             int place = at;
-            int token = peek();
             if (token >= N0) {
                 return leaf(FIXED_KIND, token - N0);
             }
@@ -2391,15 +2417,16 @@ public final class Grantbase {
         }
 
         private int leaf(int kind, int left) {
-            at++;
-            return lay(at - 1, kind, left, NONE);
+            int place = at;
+            advance();
+            return lay(place, kind, left, NONE);
         }
 
         private int inParentheses(int depth) {
             if (!needNest(OPEN, depth)) {
                 return NONE;
             }
-            int inside = isAt(SELECT) ? query(true, depth + 1) : expr(depth + 1);
+            int inside = token == SELECT ? query(true, depth + 1) : expr(depth + 1);
             need(CLOSE);
             return inside;
         }
@@ -2412,7 +2439,7 @@ public final class Grantbase {
 
         private int invocation(int depth) {
             int place = at;
-            at++;
+            advance();
             if (text.firstCall == NONE) {
                 text.firstCall = place;
             }
@@ -2421,8 +2448,8 @@ public final class Grantbase {
 
         private int aggregate(int depth) {
             int place = at;
-            boolean isCount = isAt(COUNT);
-            at++;
+            boolean isCount = token == COUNT;
+            advance();
             lay(place, AGGREGATE_KIND, NONE, NONE);
             Query query = text.queryOf(around);
             if (zone == IN_WHAT && query != null) {
@@ -2461,9 +2488,9 @@ public final class Grantbase {
             int first = conj(depth);
             int head = NONE;
             int last = NONE;
-            for (int i = 0; i < TYPED && isAt(OR); i++) {
+            for (int i = 0; i < TYPED && token == OR; i++) {
                 int place = at;
-                at++;
+                advance();
                 int operand = conj(depth);
                 head = chain(head, last, place, OR_KIND, first, operand);
                 last = place;
@@ -2475,9 +2502,9 @@ public final class Grantbase {
             int first = neg(depth);
             int head = NONE;
             int last = NONE;
-            for (int i = 0; i < TYPED && isAt(AND); i++) {
+            for (int i = 0; i < TYPED && token == AND; i++) {
                 int place = at;
-                at++;
+                advance();
                 int operand = neg(depth);
                 head = chain(head, last, place, AND_KIND, first, operand);
                 last = place;
@@ -2486,7 +2513,7 @@ public final class Grantbase {
         }
 
         private int neg(int depth) {
-            if (!isAt(NOT)) {
+            if (token != NOT) {
                 return prim(depth);
             }
             int place = at;
@@ -2495,7 +2522,7 @@ public final class Grantbase {
 
         private int prim(int depth) {
             int place = at;
-            if (isAt(BRACKET)) {
+            if (token == BRACKET) {
                 int inside = needNest(BRACKET, depth) ? cond(depth + 1) : NONE;
                 need(BRACKET_END);
                 return inside;
@@ -2515,7 +2542,7 @@ public final class Grantbase {
         private int comparison(int first, int depth) {
             int place = at;
             if (isAmong(EQUAL, 4)) {
-                at++;
+                advance();
                 return lay(place, COMPARE_KIND, first, expr(depth));
             }
             if (skip(IS)) {
@@ -2555,7 +2582,31 @@ public final class Grantbase {
                 return text.bad * 8 + SYNTAX;
             }
             for (int place = 0; place < text.count; place++) {
-                int fault = faultAt(base, text, place, number, table, runner);
+                int fault = 0;
+                switch (at(text.kind, place)) {
+                    case SOURCE_KIND:
+                        fault = sourceFault(base, text, place, number, runner);
+                        break;
+                    case TARGET_KIND:
+                        fault = targetFault(base, text, place, runner);
+                        break;
+                    case SET_KIND:
+                        fault = setFault(base, text, place, runner);
+                        break;
+                    case REF_KIND:
+                        int there = columnsOfRef(base, text, place, number, table, runner);
+                        fault = refFault(text, place, there);
+                        break;
+                    case CALL_KIND:
+                        fault = callFault(base, text, place, number, runner);
+                        break;
+                    case QUERY_KIND:
+                        fault = queryFault(base, text, place, number, runner);
+                        break;
+                    default:
+                        fault = isMisplaced(text, place) ? MISUSED : 0;
+                        break;
+                }
                 if (fault != 0) {
                     return place * 8 + fault;
                 }
@@ -2563,31 +2614,19 @@ public final class Grantbase {
             return 0;
         }
 
-        private static int faultAt(Base base, Text text, int place, int number, int table,
-                int runner) {
+        /** Whether an aggregate, p or * is misused, whoever asks. */
+        private static boolean isMisplaced(Text text, int place) {
             switch (at(text.kind, place)) {
-                case SOURCE_KIND:
-                    return sourceFault(base, text, place, number, runner);
-                case TARGET_KIND:
-                    return targetFault(base, text, place, runner);
-                case SET_KIND:
-                    return setFault(base, text, place, runner);
-                case REF_KIND:
-                    return refFault(base, text, place, number, table, runner);
-                case CALL_KIND:
-                    return callFault(base, text, place, number, runner);
                 case ROW_COUNT_KIND:
                 case AGGREGATE_KIND:
-                    return at(text.zone, place) == IN_WHAT ? 0 : MISUSED;
+                    return at(text.zone, place) != IN_WHAT;
                 case PARAMETER_KIND:
-                    return text.form == FUNCTION_EXPR ? 0 : MISUSED;
+                    return text.form != FUNCTION_EXPR;
                 case STAR_KIND:
                     Query around = text.queryAround(place);
-                    return around != null && around.isGrouped ? MISUSED : 0;
-                case QUERY_KIND:
-                    return queryFault(base, text, place, number, runner);
+                    return around != null && around.isGrouped;
                 default:
-                    return 0;
+                    return false;
             }
         }
 
@@ -2598,13 +2637,10 @@ public final class Grantbase {
                 return NAME;
             }
             boolean isView = object >= FIRST_VIEW;
-            if (isView) {
-                int view = object - FIRST_VIEW;
-                if (view >= number || widthOfView(base, view, runner) == 0) {
-                    return NAME;
-                }
+            if (isView && (object - FIRST_VIEW >= number || base.isBroken(runner, object))) {
+                return NAME;
             }
-            if (columnsSeen(base, object, number, runner) == 0) {
+            if (base.columnsSeen(runner, object) == 0) {
                 return RIGHT;
             }
             if (around != null && text.isInner(around) && (isView || place == around.b)) {
@@ -2619,7 +2655,7 @@ public final class Grantbase {
                 return NAME;
             }
             boolean isDelete = at(text.kind, text.root) == DELETE_KIND;
-            if (isDelete && !base.mayUse(runner, table, DELETE_RIGHT, NONE, false)) {
+            if (isDelete && !base.mayUse(runner, table, DELETE_RIGHT, NONE)) {
                 return RIGHT;
             }
             return 0;
@@ -2630,7 +2666,7 @@ public final class Grantbase {
             int column = at(text.left, place);
             boolean isInsert = at(text.kind, text.root) == INSERT_KIND;
             int right = isInsert ? INSERT_RIGHT : UPDATE_RIGHT;
-            boolean isSeen = (base.columnsOfTable(table, runner) >> column & 1) != 0;
+            boolean isSeen = (base.columnsSeen(runner, table) >> column & 1) != 0;
             boolean isHad = (base.columnsFor(runner, table, right) >> column & 1) != 0;
             if (column >= at(base.columns, table) || !isSeen && !isHad) {
                 return NAME;
@@ -2648,10 +2684,8 @@ public final class Grantbase {
             return 0;
         }
 
-        private static int refFault(Base base, Text text, int place, int number, int table,
-                int runner) {
-            int columns = columnsOfRef(base, text, place, number, table, runner);
-            if ((columns >> at(text.right, place) & 1) == 0) {
+        private static int refFault(Text text, int place, int there) {
+            if ((there >> at(text.right, place) & 1) == 0) {
                 return NAME;
             }
             Query around = text.queryAround(place);
@@ -2696,13 +2730,15 @@ public final class Grantbase {
             int kind = at(text.kind, text.root);
             boolean isOfTarget = kind == UPDATE_KIND || kind == DELETE_KIND;
             int target = at(text.token, text.target) - T0;
-            return isOfTarget ? base.columnsOfTable(target, runner) : 0;
+            return isOfTarget ? base.columnsSeen(runner, target) : 0;
         }
 
+        /** The columns that a runner sees of a source; a view has to be below a number. */
         private static int columnsOfSource(Base base, Text text, int place, int number,
                 int runner) {
-            return place == NONE ? 0
-                    : columnsSeen(base, at(text.token, place) - T0, number, runner);
+            int object = at(text.token, place) - T0;
+            boolean isThere = place != NONE && object < FIRST_VIEW + number;
+            return isThere ? at(base.seen, runner * FIRST_FUNCTION + object) : 0;
         }
 
         private static int callFault(Base base, Text text, int place, int number, int runner) {
@@ -2739,60 +2775,38 @@ public final class Grantbase {
                     + Integer.bitCount(columnsOfSource(base, text, query.b, number, runner));
         }
 
-        /** The columns of a table, or of a view below a number, that a runner sees. */
-        private static int columnsSeen(Base base, int object, int number, int runner) {
-            if (object < FIRST_VIEW) {
-                return base.columnsOfTable(object, runner);
-            }
-            int view = object - FIRST_VIEW;
-            if (view >= number || !base.isThere(object)) {
-                return 0;
-            }
-            int all = (1 << widthOfView(base, view, runner)) - 1;
-            return all & base.columnsFor(runner, object, SELECT_RIGHT);
-        }
-
-        /** How many columns a view has for a runner; 0 if it is broken, or not there. */
-        private static int widthOfView(Base base, int view, int runner) {
-            int slot = view * ACTORS + runner;
-            int width = at(base.viewWidth, slot);
-            Text text = base.textOf(FIRST_VIEW + view);
-            if (width != NONE || text == null) {
-                return width == NONE ? 0 : width;
-            }
-            width = 0;
-            int own = runnerOf(base, FIRST_VIEW + view, runner);
-            Query query = text.queryAt(text.root);
-            // A view names views below it alone: so this comes to an end.
-            if (query != null && check(base, text, view, NONE, own) == 0) {
-                width = Math.min(COLUMNS, widthOfQuery(base, text, query, view, own));
-            }
-            set(base.viewWidth, slot, width);
-            return width;
-        }
-
         /** Whose rights count in a view or function that somebody uses. */
         private static int runnerOf(Base base, int object, int user) {
             return at(base.way, object) == 1 ? at(base.owner, object) : user;
         }
 
-        /** Whether a function's expr has an error for a runner. */
-        private static boolean isFailing(Base base, int function, int runner) {
-            int slot = function * ACTORS + runner;
-            int failing = at(base.failing, slot);
-            Text text = base.textOf(FIRST_FUNCTION + function);
-            if (failing == NONE && text != null) {
-                failing = check(base, text, function, NONE, runner) == 0 ? 0 : 1;
-                set(base.failing, slot, failing);
+        /** Notes of each actor which views and functions are broken, and what it sees of views. */
+        private static void noteUses(Base base) {
+            for (int slot = FIRST_VIEW * ACTORS; slot < OBJECTS * ACTORS; slot++) {
+                int object = slot / ACTORS;
+                int actor = slot % ACTORS;
+                Text text = base.textOf(object);
+                if (text == null) {
+                    continue;
+                }
+                // A view names views below it alone: what those have is noted already.
+                int number = object - (object < FIRST_FUNCTION ? FIRST_VIEW : FIRST_FUNCTION);
+                int runner = runnerOf(base, object, actor);
+                Query query = text.queryAt(text.root);
+                if (check(base, text, number, NONE, runner) != 0) {
+                    set(base.broken, actor, at(base.broken, actor) | 1 << object);
+                } else if (query != null) {
+                    int width = Math.min(COLUMNS, widthOfQuery(base, text, query, number, runner));
+                    base.noteSeen(actor, object, (1 << width) - 1);
+                }
             }
-            return failing != 0;
         }
     }
 
     /** Where a text is reckoned: who it is for, and the rows that it looks at. */
     private static final class Scope {
         private final int level;
-        private Text text = new Text(0);
+        private Text text = new Text(0, STATEMENT);
         private int me;
         // As whom functions are called.
         private int caller;
@@ -2927,7 +2941,7 @@ public final class Grantbase {
         private void reckonSets(Scope s, int row) {
             int place = at(s.text.left, s.text.root);
             for (int i = 0; i < COLUMNS && place != NONE; i++) {
-                int value = value(s, at(s.text.right, place), 0);
+                int value = valueOf(s, at(s.text.right, place), 0);
                 set(fresh, row * COLUMNS + at(s.text.left, place), value);
                 place = at(s.text.link, place);
             }
@@ -2997,11 +3011,7 @@ public final class Grantbase {
         }
 
         private int readable(int table, int runner, Scope s, int deep) {
-            if (base.readAsker != asker) {
-                Arrays.fill(base.readable, NONE);
-                base.readAsker = asker;
-            }
-            int slot = table * ACTORS + runner;
+            int slot = (table * ACTORS + runner) * ACTORS + asker;
             int rows = at(base.readable, slot);
             if (rows == NONE) {
                 rows = allowed(table, runner, false, s, deep);
@@ -3028,11 +3038,11 @@ public final class Grantbase {
             boolean isLet = false;
             for (int i = 0; i < POLICIES; i++) {
                 int slot = table * POLICIES + i;
-                int kind = at(base.kind, slot);
+                int policy = at(base.policy, slot);
+                int kind = policy / ACTORS;
                 Text condition = base.conditionOf(slot);
-                boolean isAsked = kind != NONE && (kind & 1) == (isWrite ? 1 : 0)
-                        && base.isIn(at(base.whom, slot), runner);
-                if (!isAsked || condition == null) {
+                if (condition == null || (kind & 1) != (isWrite ? 1 : 0)
+                        || !base.isIn(policy % ACTORS, runner)) {
                     continue;
                 }
                 c.start(condition, runner, at(base.owner, table), NULL, null);
@@ -3053,7 +3063,7 @@ public final class Grantbase {
             s.seenOfB = Law.columnsOfSource(base, s.text, query.b, VIEWS, s.me);
             s.rowsOfA = load(s, query.a, 0, rows, deep);
             s.rowsOfB = query.b == NONE ? 1 : load(s, query.b, 1, rows, deep);
-            join(s, query, deep);
+            pairUp(s, query, deep);
             rows.start(query.isStar ? Integer.bitCount(s.seenOfA) + Integer.bitCount(s.seenOfB)
                     : query.width);
             if (query.isGrouped) {
@@ -3107,7 +3117,7 @@ public final class Grantbase {
         }
 
         /** Keeps the pairs of rows for which where is TRUE. */
-        private void join(Scope s, Query query, int deep) {
+        private void pairUp(Scope s, Query query, int deep) {
             s.pairs = 0;
             for (int i = 0; i < s.rowsOfA; i++) {
                 for (int j = 0; j < s.rowsOfB; j++) {
@@ -3162,7 +3172,7 @@ public final class Grantbase {
             } else {
                 int node = query.what;
                 for (int i = 0; i < COLUMNS && node != NONE; i++) {
-                    rows.write(i, value(s, node, deep + 1));
+                    rows.write(i, valueOf(s, node, deep + 1));
                     node = at(s.text.link, node);
                 }
             }
@@ -3195,7 +3205,7 @@ public final class Grantbase {
 
         // ---- values
 
-        private int value(Scope s, int node, int deep) {
+        private int valueOf(Scope s, int node, int deep) {
             if (deep > DEEPEST) {
                 return NULL;
             }
@@ -3212,11 +3222,11 @@ public final class Grantbase {
                 case REF_KIND:
                     return valueOfRef(s, node);
                 case NEGATE_KIND:
-                    return plus(0, value(s, left, deep + 1), true);
+                    return plus(0, valueOf(s, left, deep + 1), true);
                 case CHAIN_KIND:
                     return valueOfChain(s, node, deep);
                 case CALL_KIND:
-                    int argument = value(s, at(s.text.right, node), deep + 1);
+                    int argument = valueOf(s, at(s.text.right, node), deep + 1);
                     return invoke(left, s.caller, argument, s, deep);
                 case ROW_COUNT_KIND:
                 case AGGREGATE_KIND:
@@ -3247,10 +3257,10 @@ public final class Grantbase {
         }
 
         private int valueOfChain(Scope s, int head, int deep) {
-            int result = value(s, at(s.text.left, head), deep + 1);
+            int result = valueOf(s, at(s.text.left, head), deep + 1);
             int place = head;
             for (int i = 0; i < TYPED && place != NONE; i++) {
-                int operand = value(s, at(s.text.right, place), deep + 1);
+                int operand = valueOf(s, at(s.text.right, place), deep + 1);
                 int token = at(s.text.token, place);
                 result = token == STAR ? times(result, operand)
                         : plus(result, operand, token == MINUS);
@@ -3263,15 +3273,13 @@ public final class Grantbase {
             int object = FIRST_FUNCTION + function;
             Text text = base.textOf(object);
             Scope c = inside(s);
-            if (c == null || text == null || !base.knows(caller, object)) {
+            if (c == null || text == null || !base.knows(caller, object)
+                    || base.isBroken(caller, object)) {
                 return NULL;
             }
             int runner = Law.runnerOf(base, object, caller);
-            if (Law.isFailing(base, function, runner)) {
-                return NULL;
-            }
             c.start(text, runner, runner, p, null);
-            return value(c, text.root, deep + 1);
+            return valueOf(c, text.root, deep + 1);
         }
 
         /** Over the rows of the group at hand, each of which is at hand in its turn. */
@@ -3286,7 +3294,7 @@ public final class Grantbase {
                     continue;
                 }
                 s.now = i;
-                int value = isOfRows ? 0 : value(s, at(s.text.left, node), deep + 1);
+                int value = isOfRows ? 0 : valueOf(s, at(s.text.left, node), deep + 1);
                 if (value != NULL) {
                     many++;
                     result = many == 1 ? value : gather(token, result, value);
@@ -3325,13 +3333,13 @@ public final class Grantbase {
                 case MEMBER_KIND:
                     return base.isIn(left, s.me) ? TRUE : FALSE;
                 case COMPARE_KIND:
-                    int a = value(s, left, deep + 1);
-                    int b = value(s, at(s.text.right, node), deep + 1);
+                    int a = valueOf(s, left, deep + 1);
+                    int b = valueOf(s, at(s.text.right, node), deep + 1);
                     return compare(at(s.text.token, node), a, b);
                 case IS_NULL_KIND:
-                    return value(s, left, deep + 1) == NULL ? TRUE : FALSE;
+                    return valueOf(s, left, deep + 1) == NULL ? TRUE : FALSE;
                 case IS_VALUE_KIND:
-                    return value(s, left, deep + 1) == NULL ? FALSE : TRUE;
+                    return valueOf(s, left, deep + 1) == NULL ? FALSE : TRUE;
                 case IN_KIND:
                     return truthOfIn(s, node, deep);
                 case NOT_IN_KIND:
@@ -3377,11 +3385,11 @@ public final class Grantbase {
         }
 
         private int truthOfIn(Scope s, int node, int deep) {
-            int value = value(s, at(s.text.left, node), deep + 1);
+            int value = valueOf(s, at(s.text.left, node), deep + 1);
             int result = FALSE;
             int item = at(s.text.right, node);
             for (int i = 0; i < TYPED && item != NONE; i++) {
-                result = Math.max(result, compare(EQUAL, value, value(s, item, deep + 1)));
+                result = Math.max(result, compare(EQUAL, value, valueOf(s, item, deep + 1)));
                 item = at(s.text.link, item);
             }
             return result;
