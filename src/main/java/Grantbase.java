@@ -2261,28 +2261,19 @@ public final class Grantbase {
             if (word == UPDATE) {
                 need(SET);
             }
-            if (word != DELETE) {
-                set(text.left, place, sets());
+            int last = NONE;
+            for (int i = 0; word != DELETE && i < COLUMNS && (i == 0 || skip(COMMA)); i++) {
+                int column = needAmong(C0, COLUMNS);
+                need(EQUAL);
+                lay(column, SET_KIND, at(text.token, column) - C0, expr(0));
+                // The statement leads to the first one, each to the next one.
+                set(i == 0 ? text.left : text.link, i == 0 ? place : last, column);
+                last = column;
             }
             if (word != INSERT && skip(WHERE)) {
                 text.where = cond(0);
             }
             return place;
-        }
-
-        /** C = expr, and as many more behind commas as columns can be: the first one. */
-        private int sets() {
-            int first = NONE;
-            int last = NONE;
-            for (int i = 0; i < COLUMNS && (i == 0 || skip(COMMA)); i++) {
-                int place = needAmong(C0, COLUMNS);
-                need(EQUAL);
-                lay(place, SET_KIND, at(text.token, place) - C0, expr(0));
-                set(text.link, last, place);
-                first = i == 0 ? place : first;
-                last = place;
-            }
-            return first;
         }
 
         // ---- queries
