@@ -196,6 +196,7 @@ public final class Grantbase {
         }
         for (int i = 0; i < sheets.length; i++) {
             sheets[i] = new Sheet();
+            sheets[i].readAll(reader);
         }
     }
 
@@ -1477,9 +1478,15 @@ public final class Grantbase {
             for (int i = 0; i < ACTORS; i++) {
                 circle[i] = 1 << i;
             }
-            Arrays.fill(owner, NONE);
-            Arrays.fill(policy, NONE);
-            Arrays.fill(readable, NONE);
+            for (int i = 0; i < owner.length; i++) {
+                owner[i] = NONE;
+            }
+            for (int i = 0; i < policy.length; i++) {
+                policy[i] = NONE;
+            }
+            for (int i = 0; i < readable.length; i++) {
+                readable[i] = NONE;
+            }
         }
 
         private void forget() {
@@ -1561,10 +1568,12 @@ public final class Grantbase {
 
         private void closeCircles() {
             for (int actor = 0; actor < ACTORS; actor++) {
+                int before = 0;
                 int all = 1 << actor;
                 // Each round but the last one finds another actor.
-                for (int round = 0; round < ACTORS; round++) {
-                    all = withGroups(all);
+                for (int round = 0; round < ACTORS && all != before; round++) {
+                    before = all;
+                    all = withGroups(before);
                 }
                 circle[actor] = all;
             }

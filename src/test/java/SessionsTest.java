@@ -160,8 +160,49 @@ public final class SessionsTest {
         Desk.is("commit of nothing", d.base.commit(0), 0);
     }
 
+    /** A copy tells all that the DATABASE tells, also what no call in it has changed. */
+    private static void copies() {
+        Desk d = new Desk();
+        d.base.make(0, 0, 2);
+        d.run(0, "insert T0 c0 = 1 , c1 = 2");
+        d.view(0, 0, "select * from T0", false);
+        d.function(0, 0, "p + 1", true);
+        d.function(0, 1, "F0 ( p )", true);
+        d.base.grant(0, 0, 0, 1, 1, true);
+        d.base.grant(0, 4, 0, -1, 1, false);
+        d.base.grant(0, 4, 0, -1, 2, false);
+        d.base.grant(0, 9, 4, -1, 1, false);
+        d.base.drop(0, 8);
+        d.base.join(0, 3, 0, true);
+        d.policy(0, 0, 0, "c0 = 1", 0, 1);
+        d.base.secure(0, 0, 1);
+        d.type(0, "select * from V0");
+        for (int way = 0; way < 3; way++) {
+            if (way == 1) {
+                d.base.begin(0);
+            } else if (way == 2) {
+                d.base.savepoint(0);
+                d.base.drop(0, 0);
+                d.base.backTo(0, 0);
+            }
+            Desk.is("told", d.base.told(0, 0, 1), "2");
+            Desk.is("broken", d.base.told(0, 0, 2), "");
+            Desk.is("broken, another error", d.base.areAlike(0, 0, 2, 4), true);
+            Desk.is("seen", d.base.sees(0, 1, 4) * 10 + d.base.sees(0, 2, 4), 10);
+            Desk.is("of an error", d.base.call(0, 1, 1, 1), -9999);
+            Desk.is("known", d.base.isKnown(0, 3, 0), true);
+            Desk.is("has", d.base.has(0, 1, 0, 0, 1, true), true);
+            Desk.is("members", d.base.members(0), "3>0!");
+            Desk.is("circle", d.base.circle(0, 3), 9);
+            Desk.is("policy", d.base.policyText(0, 0, 0), "0,1:c0 = 1");
+            Desk.is("rows", d.base.rows(0, 1, 0, false) + d.base.rows(0, 2, 0, false), "0");
+            Desk.is("sound", d.base.isSound(), true);
+        }
+    }
+
     public static void main(String[] args) {
         fresh();
+        copies();
         act();
         transactions();
         sameAgain();
