@@ -412,40 +412,26 @@ public final class Grantbase {
         needPlace(session, SESSIONS);
         needPlace(view, VIEWS);
         needPlace(sheet, SHEETS);
-        Base base = ahead(session);
-        int actor = sessions[session].actor;
-        if (base.isThere(FIRST_VIEW + view)) {
-            return refuse();
+        int object = FIRST_VIEW + view;
+        int tokens = establishTyped(session, object, VIEW_QUERY, sheet, isOwners);
+        if (tokens < 0) {
+            return tokens;
         }
-        Text read = sheets[sheet].readingAs(VIEW_QUERY);
-        int fault = Law.check(base, read, view, NONE, actor);
-        if (fault != 0) {
-            return -10 - numberOfFault(fault);
-        }
-        base.establish(FIRST_VIEW + view, actor, sheets[sheet].keep(VIEW_QUERY, reader), isOwners);
         settle(session);
         // The owner sees all of its columns.
-        return Integer.bitCount(base.columnsSeen(actor, FIRST_VIEW + view));
+        return Integer.bitCount(baseOf(session).columnsSeen(sessions[session].actor, object));
     }
 
     public int function(int session, int function, int sheet, boolean isOwners) {
         needPlace(session, SESSIONS);
         needPlace(function, FUNCTIONS);
         needPlace(sheet, SHEETS);
-        Base base = ahead(session);
-        int actor = sessions[session].actor;
-        if (base.isThere(FIRST_FUNCTION + function)) {
-            return refuse();
+        int object = FIRST_FUNCTION + function;
+        int tokens = establishTyped(session, object, FUNCTION_EXPR, sheet, isOwners);
+        if (tokens >= 0) {
+            settle(session);
         }
-        Text read = sheets[sheet].readingAs(FUNCTION_EXPR);
-        int fault = Law.check(base, read, function, NONE, actor);
-        if (fault != 0) {
-            return -10 - numberOfFault(fault);
-        }
-        Text kept = sheets[sheet].keep(FUNCTION_EXPR, reader);
-        base.establish(FIRST_FUNCTION + function, actor, kept, isOwners);
-        settle(session);
-        return kept.count;
+        return tokens;
     }
 
     public int drop(int session, int object) {
@@ -869,6 +855,23 @@ public final class Grantbase {
             return shared;
         }
         return sessions[session].own;
+    }
+
+    /** Makes a view or function, to be settled: how many tokens it has, or what is told instead. */
+    private int establishTyped(int session, int object, int form, int sheet, boolean isOwners) {
+        Base base = ahead(session);
+        int actor = sessions[session].actor;
+        if (base.isThere(object)) {
+            return refuse();
+        }
+        int number = object - (form == VIEW_QUERY ? FIRST_VIEW : FIRST_FUNCTION);
+        int fault = Law.check(base, sheets[sheet].readingAs(form), number, NONE, actor);
+        if (fault != 0) {
+            return -10 - numberOfFault(fault);
+        }
+        Text kept = sheets[sheet].keep(form, reader);
+        base.establish(object, actor, kept, isOwners);
+        return kept.count;
     }
 
     /** The DATABASE of a session, kept as it is ahead of a call that may change it. */
@@ -2344,38 +2347,43 @@ public final class Grantbase {
         // ---- values
 
         private int expr(int depth) {
-            int first = term(depth);
+            return chain(PLUS, depth);
+        }
+
+        /**
+         * Operands with the signs of a level (or, and, + and -, or *) between them. The first sign
+         * heads the chain, so that long ones do not get deep; one operand alone is itself.
+         */
+        private int chain(int level, int depth) {
+            int first = operand(level, depth);
             int head = NONE;
             int last = NONE;
-            for (int i = 0; i < TYPED && isAmong(PLUS, 2); i++) {
+            int kind = level == OR ? OR_KIND : level == AND ? AND_KIND : CHAIN_KIND;
+            for (int i = 0; i < TYPED; i++) {
+                if (token != level && (level != PLUS || token != MINUS)) {
+                    break;
+                }
                 int place = at;
                 advance();
-                int operand = term(depth);
-                head = chain(head, last, place, CHAIN_KIND, first, operand);
+                lay(place, kind, first, operand(level, depth));
+                set(text.next, last, place);
+                head = head == NONE ? place : head;
                 last = place;
             }
             return head == NONE ? first : head;
         }
 
-        private int term(int depth) {
-            int first = factor(depth);
-            int head = NONE;
-            int last = NONE;
-            for (int i = 0; i < TYPED && token == STAR; i++) {
-                int place = at;
-                advance();
-                int operand = factor(depth);
-                head = chain(head, last, place, CHAIN_KIND, first, operand);
-                last = place;
+        private int operand(int level, int depth) {
+            switch (level) {
+                case OR:
+                    return chain(AND, depth);
+                case AND:
+                    return neg(depth);
+                case PLUS:
+                    return chain(STAR, depth);
+                default:
+                    return factor(depth);
             }
-            return head == NONE ? first : head;
-        }
-
-        /** Puts an operator behind the last one of its chain; the first one is the chain's head. */
-        private int chain(int head, int last, int place, int kind, int first, int operand) {
-            lay(place, kind, head == NONE ? first : NONE, operand);
-            set(text.next, last, place);
-            return head == NONE ? place : head;
         }
 
         private int factor(int depth) {
@@ -2485,31 +2493,7 @@ public final class Grantbase {
         // ---- conditions
 
         private int cond(int depth) {
-            int first = conj(depth);
-            int head = NONE;
-            int last = NONE;
-            for (int i = 0; i < TYPED && token == OR; i++) {
-                int place = at;
-                advance();
-                int operand = conj(depth);
-                head = chain(head, last, place, OR_KIND, first, operand);
-                last = place;
-            }
-            return head == NONE ? first : head;
-        }
-
-        private int conj(int depth) {
-            int first = neg(depth);
-            int head = NONE;
-            int last = NONE;
-            for (int i = 0; i < TYPED && token == AND; i++) {
-                int place = at;
-                advance();
-                int operand = neg(depth);
-                head = chain(head, last, place, AND_KIND, first, operand);
-                last = place;
-            }
-            return head == NONE ? first : head;
+            return chain(OR, depth);
         }
 
         private int neg(int depth) {
