@@ -489,8 +489,9 @@ public final class Grantbase {
         if (fault != 0) {
             return -10 - numberOfFault(fault);
         }
-        int slot = table * POLICIES + policy;
-        base.enact(slot, kind * ACTORS + actor, sheets[sheet].keep(POLICY_COND, reader));
+        Text kept = new Text(sheets[sheet].count, POLICY_COND);
+        reader.read(kept, sheets[sheet].token, sheets[sheet].count);
+        base.enact(table * POLICIES + policy, kind * ACTORS + actor, kept);
         settle(session);
         return base.policiesOf(table);
     }
@@ -869,7 +870,9 @@ public final class Grantbase {
         if (fault != 0) {
             return -10 - numberOfFault(fault);
         }
-        Text kept = sheets[sheet].keep(form, reader);
+        // A text of its own: the sheet goes on to change.
+        Text kept = new Text(sheets[sheet].count, form);
+        reader.read(kept, sheets[sheet].token, sheets[sheet].count);
         base.establish(object, actor, kept, isOwners);
         return kept.count;
     }
@@ -1346,13 +1349,6 @@ public final class Grantbase {
 
         private Text readingAs(int form) {
             return reading[form >= 0 && form < reading.length ? form : 0];
-        }
-
-        /** A text of its own of what is typed. */
-        private Text keep(int form, Reader reader) {
-            Text text = new Text(count, form);
-            reader.read(text, token, count);
-            return text;
         }
     }
 
