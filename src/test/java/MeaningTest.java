@@ -74,6 +74,10 @@ public final class MeaningTest {
         when("c0 in ( 1 , null )", "10;30");
         when("c0 not in ( 1 , null )", "");
         when("not c0 in ( 1 , null )", "");
+        when("not c0 not in ( 1 , 5 )", "10;30");
+        when("not c0 not in ( 1 , null )", "10;30");
+        when("c0 not in ( 1 , null ) or c1 = 20", "20");
+        when("c0 is not null and not c0 is null", "-;10;20;30");
         when("exists ( select c0 from T1 where c0 = outer c0 )", "10;30");
         when("not exists ( select c0 from T1 where c0 = outer c0 )", "-;20;40");
         when("exists ( select count ( * ) from T1 where c0 = 77 )", "-;10;20;30;40");

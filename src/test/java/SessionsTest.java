@@ -102,6 +102,51 @@ public final class SessionsTest {
         Desk.is("with other rights it is", d.base.ofSession(0, 4), 1);
     }
 
+    /** What is made anew just as it was is no other DATABASE; another text of the same length is. */
+    private static void madeAnew() {
+        Desk d = new Desk();
+        d.base.make(0, 0, 2);
+        d.function(0, 0, "p + 1", false);
+        d.policy(0, 0, 0, "c0 = 1", 0, 1);
+        d.base.grant(0, 0, 0, -1, 1, true);
+        d.base.begin(0);
+        d.base.drop(0, 8);
+        d.function(0, 0, "p + 1", false);
+        Desk.is("a function", d.base.ofSession(0, 4), 0);
+        d.base.drop(0, 8);
+        d.function(0, 0, "p + 2", false);
+        Desk.is("another one of the same length", d.base.ofSession(0, 4), 1);
+        d.base.drop(0, 8);
+        d.function(0, 0, "p + 1", false);
+        Desk.is("the same again", d.base.ofSession(0, 4), 0);
+        d.policy(0, 0, 0, "c0 = 2", 0, 1);
+        Desk.is("another policy", d.base.ofSession(0, 4), 1);
+        d.policy(0, 0, 0, "c0 = 1", 0, 2);
+        Desk.is("for another one", d.base.ofSession(0, 4), 1);
+        d.policy(0, 0, 0, "c0 = 1", 1, 1);
+        Desk.is("of another kind", d.base.ofSession(0, 4), 1);
+        d.policy(0, 0, 0, "c0 = 1", 0, 1);
+        Desk.is("the same policy again", d.base.ofSession(0, 4), 0);
+        d.run(0, "insert T0 c0 = 1 , c1 = 2");
+        d.run(0, "insert T0 c0 = 3");
+        d.base.secure(0, 0, 2);
+        d.base.drop(0, 0);
+        d.base.make(0, 0, 2);
+        Desk.is("a table without its policy", d.base.ofSession(0, 4), 1);
+        d.policy(0, 0, 0, "c0 = 1", 0, 1);
+        Desk.is("and without its grant", d.base.ofSession(0, 4), 1);
+        d.base.grant(0, 0, 0, -1, 1, false);
+        Desk.is("and with one without option", d.base.ofSession(0, 4), 1);
+        d.base.grant(0, 0, 0, -1, 1, true);
+        Desk.is("a table, all as it was", d.base.ofSession(0, 4), 0);
+        int version = d.base.house(0);
+        Desk.is("commit of nothing", d.base.commit(0), version);
+        d.policy(0, 0, 0, "c0 = 2", 0, 1);
+        Desk.is("a call that changes a text", d.base.house(0), version + 1);
+        d.policy(0, 0, 0, "c0 = 2", 0, 1);
+        Desk.is("a call that does not", d.base.house(0), version + 1);
+    }
+
     private static void two() {
         Desk d = new Desk();
         d.base.begin(0);
@@ -206,6 +251,7 @@ public final class SessionsTest {
         act();
         transactions();
         sameAgain();
+        madeAnew();
         two();
         rollBack();
         savepoints();

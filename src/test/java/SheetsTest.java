@@ -16,6 +16,11 @@ public final class SheetsTest {
         Desk.is("nothing came", d.base.token(0, 57), 62);
         Desk.is("60", d.base.say(0, 0, -1, -1, -1, 1), 60);
         Desk.is("none more", d.base.say(0, -1, -1, -1, -1, -1), 60);
+        Desk.isRaised("a alone", "IllegalStateException", () -> d.base.say(0, 0, -1, -1, -1, -1));
+        Desk.isRaised("b alone", "IllegalStateException", () -> d.base.say(0, -1, 0, -1, -1, -1));
+        Desk.isRaised("c alone", "IllegalStateException", () -> d.base.say(0, -1, -1, 0, -1, -1));
+        Desk.isRaised("d alone", "IllegalStateException", () -> d.base.say(0, -1, -1, -1, 0, -1));
+        Desk.isRaised("e alone", "IllegalStateException", () -> d.base.say(0, -1, -1, -1, -1, 0));
         Desk.isRaised("no token goes ahead", "IllegalArgumentException", () -> d.base.say(0, 0, 63, 0, 0, 0));
         Desk.isRaised("no sheet goes ahead", "IndexOutOfBoundsException", () -> d.base.say(4, 0, 63, 0, 0, 0));
         for (int bad : new int[] {-2, 63, 99, 200}) {
