@@ -202,7 +202,8 @@ public final class Grantbase {
 
     // ---- sessions
 
-    public int act(int session, int actor) {
+    public int act(int session, int actor)
+            throws IndexOutOfBoundsException, IllegalArgumentException {
         needPlace(session, SESSIONS);
         needNumber(actor, 0, ACTORS - 1);
         Session s = sessions[session];
@@ -214,7 +215,7 @@ public final class Grantbase {
         return old;
     }
 
-    public int begin(int session) {
+    public int begin(int session) throws IndexOutOfBoundsException {
         needPlace(session, SESSIONS);
         Session s = sessions[session];
         if (s.isOpen) {
@@ -228,7 +229,7 @@ public final class Grantbase {
         return version;
     }
 
-    public int commit(int session) {
+    public int commit(int session) throws IndexOutOfBoundsException {
         needPlace(session, SESSIONS);
         Session s = sessions[session];
         if (!s.isOpen) {
@@ -246,7 +247,7 @@ public final class Grantbase {
         return version;
     }
 
-    public int rollBack(int session) {
+    public int rollBack(int session) throws IndexOutOfBoundsException {
         needPlace(session, SESSIONS);
         Session s = sessions[session];
         if (!s.isOpen) {
@@ -256,7 +257,7 @@ public final class Grantbase {
         return s.savepoints;
     }
 
-    public int savepoint(int session) {
+    public int savepoint(int session) throws IndexOutOfBoundsException {
         needPlace(session, SESSIONS);
         Session s = sessions[session];
         if (!s.isOpen || s.savepoints >= s.saved.length) {
@@ -267,7 +268,7 @@ public final class Grantbase {
         return s.savepoints;
     }
 
-    public int backTo(int session, int savepoint) {
+    public int backTo(int session, int savepoint) throws IndexOutOfBoundsException {
         needPlace(session, SESSIONS);
         Session s = sessions[session];
         boolean isThere = savepoint >= 0 && savepoint < s.savepoints && savepoint < s.saved.length;
@@ -281,7 +282,8 @@ public final class Grantbase {
 
     // ---- sheets
 
-    public int say(int sheet, int a, int b, int c, int d, int e) {
+    public int say(int sheet, int a, int b, int c, int d, int e)
+            throws IndexOutOfBoundsException, IllegalArgumentException, IllegalStateException {
         needPlace(sheet, SHEETS);
         needTokenOrNone(a);
         needTokenOrNone(b);
@@ -302,7 +304,8 @@ public final class Grantbase {
         return s.count;
     }
 
-    public int wipe(int sheet, int many) {
+    public int wipe(int sheet, int many)
+            throws IndexOutOfBoundsException, IllegalArgumentException {
         needPlace(sheet, SHEETS);
         if (many < 1) {
             throw new IllegalArgumentException();
@@ -313,7 +316,8 @@ public final class Grantbase {
         return s.count;
     }
 
-    public int put(int sheet, int place, int token) {
+    public int put(int sheet, int place, int token)
+            throws IndexOutOfBoundsException, IllegalArgumentException {
         needPlace(sheet, SHEETS);
         Sheet s = sheets[sheet];
         needPlace(place, s.count);
@@ -324,7 +328,8 @@ public final class Grantbase {
         return old;
     }
 
-    public int sample(int sheet, int sample, int x, int y) {
+    public int sample(int sheet, int sample, int x, int y)
+            throws IndexOutOfBoundsException, IllegalArgumentException {
         needPlace(sheet, SHEETS);
         needNumber(sample, 0, LAST_SAMPLE);
         needNumber(x, 0, N99 - N0);
@@ -344,20 +349,21 @@ public final class Grantbase {
         return s.count;
     }
 
-    public String typed(int sheet) {
+    public String typed(int sheet) throws IndexOutOfBoundsException {
         needPlace(sheet, SHEETS);
         writeTyped(sheets[sheet]);
         return page.toString();
     }
 
-    public int token(int sheet, int place) {
+    public int token(int sheet, int place) throws IndexOutOfBoundsException {
         needPlace(sheet, SHEETS);
         Sheet s = sheets[sheet];
         needPlace(place, s.count);
         return at(s.token, place);
     }
 
-    public int fault(int session, int sheet, int form, boolean isPlace) {
+    public int fault(int session, int sheet, int form, boolean isPlace)
+            throws IndexOutOfBoundsException, IllegalArgumentException {
         needPlace(session, SESSIONS);
         needPlace(sheet, SHEETS);
         needNumber(form, 0, FORMS - 1);
@@ -367,7 +373,8 @@ public final class Grantbase {
 
     // ---- members, objects
 
-    public int join(int session, int member, int group, boolean isAdmin) {
+    public int join(int session, int member, int group, boolean isAdmin)
+            throws IndexOutOfBoundsException, IllegalArgumentException {
         needPlace(session, SESSIONS);
         needNumber(member, 0, ACTORS - 1);
         needNumber(group, 0, ACTORS - 1);
@@ -380,7 +387,8 @@ public final class Grantbase {
         return base.memberships();
     }
 
-    public int leave(int session, int member, int group) {
+    public int leave(int session, int member, int group)
+            throws IndexOutOfBoundsException, IllegalArgumentException {
         needPlace(session, SESSIONS);
         needNumber(member, 0, ACTORS - 1);
         needNumber(group, 0, ACTORS - 1);
@@ -394,7 +402,8 @@ public final class Grantbase {
         return settle(session);
     }
 
-    public int make(int session, int table, int columns) {
+    public int make(int session, int table, int columns)
+            throws IndexOutOfBoundsException, IllegalArgumentException {
         needPlace(session, SESSIONS);
         needPlace(table, TABLES);
         needNumber(columns, 1, COLUMNS);
@@ -408,7 +417,8 @@ public final class Grantbase {
         return base.objects();
     }
 
-    public int view(int session, int view, int sheet, boolean isOwners) {
+    public int view(int session, int view, int sheet, boolean isOwners)
+            throws IndexOutOfBoundsException {
         needPlace(session, SESSIONS);
         needPlace(view, VIEWS);
         needPlace(sheet, SHEETS);
@@ -422,7 +432,8 @@ public final class Grantbase {
         return Integer.bitCount(baseOf(session).columnsSeen(sessions[session].actor, object));
     }
 
-    public int function(int session, int function, int sheet, boolean isOwners) {
+    public int function(int session, int function, int sheet, boolean isOwners)
+            throws IndexOutOfBoundsException {
         needPlace(session, SESSIONS);
         needPlace(function, FUNCTIONS);
         needPlace(sheet, SHEETS);
@@ -434,7 +445,7 @@ public final class Grantbase {
         return tokens;
     }
 
-    public int drop(int session, int object) {
+    public int drop(int session, int object) throws IndexOutOfBoundsException {
         needPlace(session, SESSIONS);
         needPlace(object, OBJECTS);
         Base base = ahead(session);
@@ -446,7 +457,8 @@ public final class Grantbase {
         return gone;
     }
 
-    public int own(int session, int object, int actor) {
+    public int own(int session, int object, int actor)
+            throws IndexOutOfBoundsException, IllegalArgumentException {
         needPlace(session, SESSIONS);
         needPlace(object, OBJECTS);
         needNumber(actor, 0, ACTORS - 1);
@@ -458,7 +470,8 @@ public final class Grantbase {
         return settle(session);
     }
 
-    public int secure(int session, int table, int security) {
+    public int secure(int session, int table, int security)
+            throws IndexOutOfBoundsException, IllegalArgumentException {
         needPlace(session, SESSIONS);
         needPlace(table, TABLES);
         needNumber(security, 0, 2);
@@ -472,7 +485,8 @@ public final class Grantbase {
         return old;
     }
 
-    public int policy(int session, int table, int policy, int sheet, int kind, int actor) {
+    public int policy(int session, int table, int policy, int sheet, int kind, int actor)
+            throws IndexOutOfBoundsException, IllegalArgumentException {
         needPlace(session, SESSIONS);
         needPlace(table, TABLES);
         needPlace(policy, POLICIES);
@@ -496,7 +510,7 @@ public final class Grantbase {
         return base.policiesOf(table);
     }
 
-    public int unpolicy(int session, int table, int policy) {
+    public int unpolicy(int session, int table, int policy) throws IndexOutOfBoundsException {
         needPlace(session, SESSIONS);
         needPlace(table, TABLES);
         needPlace(policy, POLICIES);
@@ -512,7 +526,8 @@ public final class Grantbase {
 
     // ---- rights
 
-    public int grant(int session, int object, int right, int column, int actor, boolean isOption) {
+    public int grant(int session, int object, int right, int column, int actor, boolean isOption)
+            throws IndexOutOfBoundsException, IllegalArgumentException, IllegalStateException {
         needPlace(session, SESSIONS);
         needPlace(object, OBJECTS);
         needNumber(right, 0, EXECUTE_RIGHT);
@@ -534,7 +549,8 @@ public final class Grantbase {
         return base.grantsOf(object);
     }
 
-    public int revoke(int session, int object, int right, int column, int actor, int way) {
+    public int revoke(int session, int object, int right, int column, int actor, int way)
+            throws IndexOutOfBoundsException, IllegalArgumentException {
         needPlace(session, SESSIONS);
         needPlace(object, OBJECTS);
         needNumber(right, 0, EXECUTE_RIGHT);
@@ -566,7 +582,7 @@ public final class Grantbase {
 
     // ---- statements
 
-    public int run(int session, int sheet) {
+    public int run(int session, int sheet) throws IndexOutOfBoundsException {
         needPlace(session, SESSIONS);
         needPlace(sheet, SHEETS);
         Session s = sessions[session];
@@ -596,19 +612,20 @@ public final class Grantbase {
         return many;
     }
 
-    public int result(int session, int what) {
+    public int result(int session, int what)
+            throws IndexOutOfBoundsException, IllegalArgumentException {
         needPlace(session, SESSIONS);
         needNumber(what, 0, 4);
         return resultOf(sessions[session], what);
     }
 
-    public String answer(int session) {
+    public String answer(int session) throws IndexOutOfBoundsException {
         needPlace(session, SESSIONS);
         writeRows(sessions[session].told);
         return page.toString();
     }
 
-    public int value(int session, int row, int column) {
+    public int value(int session, int row, int column) throws IndexOutOfBoundsException {
         needPlace(session, SESSIONS);
         Rows told = sessions[session].told;
         needPlace(row, told.count);
@@ -616,7 +633,7 @@ public final class Grantbase {
         return told.cellAt(row, column);
     }
 
-    public String would(int session, int sheet) {
+    public String would(int session, int sheet) throws IndexOutOfBoundsException {
         needPlace(session, SESSIONS);
         needPlace(sheet, SHEETS);
         ask(baseOf(session), sheet, sessions[session].actor, found);
@@ -624,7 +641,8 @@ public final class Grantbase {
         return page.toString();
     }
 
-    public String told(int session, int sheet, int actor) {
+    public String told(int session, int sheet, int actor)
+            throws IndexOutOfBoundsException, IllegalArgumentException {
         needPlace(session, SESSIONS);
         needPlace(sheet, SHEETS);
         needNumber(actor, 0, ACTORS - 1);
@@ -633,7 +651,8 @@ public final class Grantbase {
         return page.toString();
     }
 
-    public boolean areAlike(int session, int sheet, int actor, int other) {
+    public boolean areAlike(int session, int sheet, int actor, int other)
+            throws IndexOutOfBoundsException, IllegalArgumentException {
         needPlace(session, SESSIONS);
         needPlace(sheet, SHEETS);
         needNumber(actor, 0, ACTORS - 1);
@@ -646,33 +665,35 @@ public final class Grantbase {
 
     // ---- what is asked, of the DATABASE of a SESSION
 
-    public int circle(int session, int actor) {
+    public int circle(int session, int actor)
+            throws IndexOutOfBoundsException, IllegalArgumentException {
         needPlace(session, SESSIONS);
         needNumber(actor, 0, ACTORS - 1);
         return at(baseOf(session).circle, actor);
     }
 
-    public String members(int session) {
+    public String members(int session) throws IndexOutOfBoundsException {
         needPlace(session, SESSIONS);
         writeMembers(baseOf(session));
         return page.toString();
     }
 
-    public int ofObject(int session, int object, int what) {
+    public int ofObject(int session, int object, int what)
+            throws IndexOutOfBoundsException, IllegalArgumentException {
         needPlace(session, SESSIONS);
         needPlace(object, OBJECTS);
         needNumber(what, 0, 7);
         return factOf(baseOf(session), object, what);
     }
 
-    public String text(int session, int object) {
+    public String text(int session, int object) throws IndexOutOfBoundsException {
         needPlace(session, SESSIONS);
         needPlace(object, OBJECTS);
         writeObject(baseOf(session), object);
         return page.toString();
     }
 
-    public String policyText(int session, int table, int policy) {
+    public String policyText(int session, int table, int policy) throws IndexOutOfBoundsException {
         needPlace(session, SESSIONS);
         needPlace(table, TABLES);
         needPlace(policy, POLICIES);
@@ -680,14 +701,15 @@ public final class Grantbase {
         return page.toString();
     }
 
-    public String grants(int session, int object) {
+    public String grants(int session, int object) throws IndexOutOfBoundsException {
         needPlace(session, SESSIONS);
         needPlace(object, OBJECTS);
         writeGrants(baseOf(session), object);
         return page.toString();
     }
 
-    public boolean has(int session, int actor, int object, int right, int column, boolean isOption) {
+    public boolean has(int session, int actor, int object, int right, int column, boolean isOption)
+            throws IndexOutOfBoundsException, IllegalArgumentException {
         needPlace(session, SESSIONS);
         needPlace(object, OBJECTS);
         needNumber(actor, 0, ACTORS - 1);
@@ -701,21 +723,24 @@ public final class Grantbase {
                 : base.mayUse(actor, object, right, column);
     }
 
-    public boolean isKnown(int session, int actor, int object) {
+    public boolean isKnown(int session, int actor, int object)
+            throws IndexOutOfBoundsException, IllegalArgumentException {
         needPlace(session, SESSIONS);
         needPlace(object, OBJECTS);
         needNumber(actor, 0, ACTORS - 1);
         return baseOf(session).knows(actor, object);
     }
 
-    public int sees(int session, int actor, int object) {
+    public int sees(int session, int actor, int object)
+            throws IndexOutOfBoundsException, IllegalArgumentException {
         needPlace(session, SESSIONS);
         needPlace(object, FIRST_FUNCTION);
         needNumber(actor, 0, ACTORS - 1);
         return baseOf(session).columnsSeen(actor, object);
     }
 
-    public String rows(int session, int actor, int table, boolean isWrite) {
+    public String rows(int session, int actor, int table, boolean isWrite)
+            throws IndexOutOfBoundsException, IllegalArgumentException {
         needPlace(session, SESSIONS);
         needPlace(table, TABLES);
         needNumber(actor, 0, ACTORS - 1);
@@ -723,7 +748,8 @@ public final class Grantbase {
         return page.toString();
     }
 
-    public int call(int session, int function, int actor, int p) {
+    public int call(int session, int function, int actor, int p)
+            throws IndexOutOfBoundsException, IllegalArgumentException {
         needPlace(session, SESSIONS);
         needPlace(function, FUNCTIONS);
         needNumber(actor, 0, ACTORS - 1);
@@ -733,7 +759,8 @@ public final class Grantbase {
         return teller.callAs(baseOf(session), function, actor, p);
     }
 
-    public int ofSession(int session, int what) {
+    public int ofSession(int session, int what)
+            throws IndexOutOfBoundsException, IllegalArgumentException {
         needPlace(session, SESSIONS);
         needNumber(what, 0, 4);
         return stateOf(sessions[session], what);
@@ -746,7 +773,7 @@ public final class Grantbase {
         return knocks;
     }
 
-    public int house(int what) {
+    public int house(int what) throws IllegalArgumentException {
         needNumber(what, 0, 8);
         switch (what) {
             case 0:
