@@ -30,7 +30,7 @@ public final class ExceptionsTest {
         "ofSession I0,2 A0,4", "knock", "house A0,8", "isSound", "digest",
     };
 
-    private static Grantbase fresh() {
+    private static Desk fresh() {
         Desk d = new Desk();
         for (int session = 0; session < 3; session++) {
             d.base.act(session, 0);
@@ -44,7 +44,7 @@ public final class ExceptionsTest {
         for (int session = 0; session < 3; session++) {
             d.base.run(session, 0);
         }
-        return d.base;
+        return d;
     }
 
     private static String answer(Method method, Grantbase base, Object[] arguments) {
@@ -96,8 +96,9 @@ public final class ExceptionsTest {
     private static void one(String line) {
         String[] words = line.split(" ");
         Method method = method(words[0]);
-        Grantbase base = fresh();
-        long before = base.digest();
+        Desk desk = fresh();
+        Grantbase base = desk.base;
+        String before = desk.state();
         for (int i = 1; i < words.length; i++) {
             Bound bound = bound(words[i]);
             if (bound == null) {
@@ -111,16 +112,17 @@ public final class ExceptionsTest {
                 two(line, i, bad, base);
             }
         }
-        Desk.is(line + " changes nothing by that", base.digest(), before);
+        Desk.is(line + " changes nothing by that", desk.state(), before);
+        Desk.is(line + " is not counted as REFUSED by that", base.house(1), 0);
         for (int i = 1; i < words.length; i++) {
             Bound bound = bound(words[i]);
             if (bound != null && bound.most < Integer.MAX_VALUE) {
                 Object[] arguments = good(words);
                 arguments[i - 1] = bound.most;
-                Desk.is(line + " with the most at " + i, answer(method, fresh(), arguments), "nothing");
+                Desk.is(line + " with the most at " + i, answer(method, fresh().base, arguments), "nothing");
             }
         }
-        Desk.is(line + " with the least", answer(method, fresh(), good(words)), "nothing");
+        Desk.is(line + " with the least", answer(method, fresh().base, good(words)), "nothing");
     }
 
     /** With a second argument outside its bounds: an index goes ahead of all others. */
@@ -145,11 +147,10 @@ public final class ExceptionsTest {
         for (int i = 0; i < 12; i++) {
             d.base.say(0, 0, 0, 0, 0, 0);
         }
-        long before = d.base.digest();
-        Desk.isRaised("more than 60", "IllegalStateException", () -> d.base.say(0, 0, -1, -1, -1, -1));
-        Desk.isRaised("no token, and more than 60", ARGUMENT, () -> d.base.say(0, 0, -1, -1, -1, 63));
-        Desk.isRaised("no sheet, and more than 60", INDEX, () -> d.base.say(-1, 0, -1, -1, -1, -1));
-        Desk.is("nothing changed", d.base.digest(), before);
+        d.thrown("more than 60", "IllegalStateException", () -> d.base.say(0, 0, -1, -1, -1, -1));
+        d.thrown("no token, and more than 60", ARGUMENT, () -> d.base.say(0, 0, -1, -1, -1, 63));
+        d.thrown("no sheet, and more than 60", INDEX, () -> d.base.say(-1, 0, -1, -1, -1, -1));
+        d.thrown("no sheet, no token, and more than 60", INDEX, () -> d.base.say(4, 63, -1, -1, -1, -1));
     }
 
     public static void main(String[] args) {

@@ -1,3 +1,7 @@
+import java.math.BigInteger;
+import java.util.ArrayList;
+import java.util.List;
+
 /** Promises 46 to 49: the whole. */
 public final class WholeTest {
 
@@ -59,60 +63,67 @@ public final class WholeTest {
         Desk.is("a full one", full().base.isSound(), true);
     }
 
-    /** The checksum by what all other methods tell. */
-    private static long digest(Grantbase x) {
-        long d = 7677;
+    /** What the checksum is of, in its sequence, by what all other methods tell. */
+    private static List<Integer> numbers(Grantbase x) {
+        List<Integer> all = new ArrayList<>();
         for (int what = 0; what <= 8; what++) {
-            d = d * 31 + x.house(what);
+            all.add(x.house(what));
         }
         for (int s = 0; s < 3; s++) {
             for (int what = 0; what <= 4; what++) {
-                d = d * 31 + x.ofSession(s, what);
+                all.add(x.ofSession(s, what));
             }
             for (int what = 0; what <= 4; what++) {
-                d = d * 31 + x.result(s, what);
+                all.add(x.result(s, what));
             }
-            d = d * 31 + x.answer(s).length();
-            d = d * 31 + x.members(s).length();
+            all.add(x.answer(s).length());
+            all.add(x.members(s).length());
             for (int object = 0; object < 12; object++) {
                 for (int what = 0; what <= 7; what++) {
-                    d = d * 31 + x.ofObject(s, object, what);
+                    all.add(x.ofObject(s, object, what));
                 }
-                d = d * 31 + x.text(s, object).length();
-                d = d * 31 + x.grants(s, object).length();
+                all.add(x.text(s, object).length());
+                all.add(x.grants(s, object).length());
             }
             for (int table = 0; table < 4; table++) {
                 for (int policy = 0; policy < 4; policy++) {
-                    d = d * 31 + x.policyText(s, table, policy).length();
+                    all.add(x.policyText(s, table, policy).length());
                 }
             }
-            d = actorsAndSheets(x, s, d);
+            addActorsAndSheets(x, s, all);
         }
-        return d * 31 + (x.isSound() ? 1 : 0);
+        all.add(x.isSound() ? 1 : 0);
+        return all;
     }
 
-    private static long actorsAndSheets(Grantbase x, int s, long start) {
-        long d = start;
+    private static void addActorsAndSheets(Grantbase x, int s, List<Integer> all) {
         for (int actor = 0; actor < 8; actor++) {
-            d = d * 31 + x.circle(s, actor);
+            all.add(x.circle(s, actor));
             for (int object = 0; object < 12; object++) {
-                d = d * 31 + (x.isKnown(s, actor, object) ? 1 : 0);
+                all.add(x.isKnown(s, actor, object) ? 1 : 0);
             }
             for (int object = 0; object < 8; object++) {
-                d = d * 31 + x.sees(s, actor, object);
+                all.add(x.sees(s, actor, object));
             }
             for (int table = 0; table < 4; table++) {
-                d = d * 31 + x.rows(s, actor, table, false).length();
-                d = d * 31 + x.rows(s, actor, table, true).length();
+                all.add(x.rows(s, actor, table, false).length());
+                all.add(x.rows(s, actor, table, true).length());
             }
         }
         for (int sheet = 0; sheet < 4; sheet++) {
-            d = d * 31 + x.typed(sheet).length();
+            all.add(x.typed(sheet).length());
             for (int form = 0; form < 4; form++) {
-                d = d * 31 + x.fault(s, sheet, form, false);
-                d = d * 31 + x.fault(s, sheet, form, true);
+                all.add(x.fault(s, sheet, form, false));
+                all.add(x.fault(s, sheet, form, true));
             }
-            d = d * 31 + x.would(s, sheet).length();
+            all.add(x.would(s, sheet).length());
+        }
+    }
+
+    private static long digest(Grantbase x) {
+        long d = 7677;
+        for (int v : numbers(x)) {
+            d = d * 31 + v;
         }
         return d;
     }
@@ -129,11 +140,70 @@ public final class WholeTest {
         Desk.is("by all others", d.base.digest(), digest(d.base));
     }
 
+    /** "which wraps around as a 64-bit integer": the checksum without any bound, and what is left of it. */
+    private static void wraps() {
+        boolean isBelow = false;
+        boolean isAbove = false;
+        Desk[] all = {new Desk(), full(), full()};
+        for (int i = 0; i < 20; i++) {
+            for (Desk d : all) {
+                BigInteger whole = BigInteger.valueOf(7677);
+                for (int v : numbers(d.base)) {
+                    whole = whole.multiply(BigInteger.valueOf(31)).add(BigInteger.valueOf(v));
+                }
+                Desk.is("far beyond", whole.bitLength() > 6000, true);
+                long due = whole.mod(BigInteger.ONE.shiftLeft(64)).longValue();
+                long got = d.base.digest();
+                Desk.is("64 bits of it", got, due);
+                isBelow |= got < 0;
+                isAbove |= got > 0;
+                d.base.knock();
+            }
+        }
+        Desk.is("below 0", isBelow, true);
+        Desk.is("above 0", isAbove, true);
+        Desk.is("numbers of it", numbers(new Grantbase()).size(), 1270);
+    }
+
+    /** "used for at most 512 calls": the 512th one is answered as each before. */
+    private static void lastCalls() {
+        Grantbase knocked = new Grantbase();
+        for (int i = 1; i <= 512; i++) {
+            Desk.is("knock", knocked.knock(), i);
+        }
+        Grantbase refused = new Grantbase();
+        for (int i = 1; i <= 511; i++) {
+            Desk.is("refused", refused.commit(i % 3), -9);
+        }
+        Desk.is("so often", refused.house(1), 511);
+        Grantbase changed = new Grantbase();
+        changed.make(0, 0, 1);
+        changed.sample(0, 7, 0, 0);
+        changed.wipe(0, 4);
+        changed.say(1, 16, 41, 37, 31, 100);
+        for (int i = 0; i < 253; i++) {
+            Desk.is("insert", changed.run(0, 1), 1);
+            Desk.is("delete", changed.run(0, 0), 1);
+        }
+        changed.run(0, 1);
+        Desk.is("the last one of 512 calls", changed.text(0, 0), "253:0");
+        Grantbase conflicted = new Grantbase();
+        conflicted.make(0, 0, 1);
+        for (int i = 0; i < 170; i++) {
+            conflicted.begin(1);
+            conflicted.secure(0, 0, i % 2 + 1);
+            Desk.is("conflict", conflicted.commit(1), -7);
+        }
+        Desk.is("the last one of 512 calls", conflicted.house(2), 170);
+    }
+
     public static void main(String[] args) {
         knock();
         house();
         sound();
         digest();
+        wraps();
+        lastCalls();
         Desk.end("WholeTest");
     }
 }
